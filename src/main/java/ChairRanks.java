@@ -25,8 +25,6 @@ public final class ChairRanks {
     /** Numbers that a ministry is made of: five of its own, and six of each chair. */
     private static final int OWN_CELLS = 5, CELLS = OWN_CELLS + 6 * MOST_CHAIRS;
 
-    private static final int LEGS_LESS = 1, SOMEBODY_CAUGHT = 2;
-
     private final Row[] rows = new Row[MOST_ROWS];
     private final Tape tape = new Tape();
     private final Ministry now = new Ministry();
@@ -271,7 +269,7 @@ public final class ChairRanks {
             if (plan.leg[chair] == 0) {
                 return k;
             }
-            if (plan.passNight() == 0) {
+            if (!plan.passNight()) {
                 return NONE;
             }
         }
@@ -287,7 +285,7 @@ public final class ChairRanks {
             if (plan.rankOf(chair) <= r) {
                 return k;
             }
-            if (plan.passNight() == 0) {
+            if (!plan.passNight()) {
                 return NONE;
             }
         }
@@ -300,7 +298,7 @@ public final class ChairRanks {
         }
         foresee();
         for (int k = 0; k <= FAR_NIGHTS; k++) {
-            if ((plan.passNight() & LEGS_LESS) == 0) {
+            if (!plan.passNight()) {
                 return k;
             }
         }
@@ -701,7 +699,7 @@ public final class ChairRanks {
         int dust = 0;
         for (int k = 1; k < now.size; k++) {
             int one = told[k];
-            for (int cut = 0; cut < MOST_LEG && plan.leg[one] > 0 && !plan.isHigher(told[k - 1], one); cut++) {
+            while (plan.leg[one] > 0 && !plan.isHigher(told[k - 1], one)) {
                 plan.leg[one]--;
                 dust++;
             }
@@ -718,8 +716,7 @@ public final class ChairRanks {
         int many = 0;
         for (int k = now.size - 2; k >= 0; k--) {
             int one = told[k];
-            for (int put = 0; put < MOST_CUSHIONS && plan.cushions[one] < MOST_CUSHIONS
-                    && !plan.isHigher(one, told[k + 1]); put++) {
+            while (plan.cushions[one] < MOST_CUSHIONS && !plan.isHigher(one, told[k + 1])) {
                 plan.cushions[one]++;
                 many++;
             }
@@ -1118,10 +1115,10 @@ public final class ChairRanks {
             }
         }
 
-        /** What the night changed: whether legs are less, whether somebody was caught. */
-        int passNight() {
+        /** Whether a leg is less by it. */
+        boolean passNight() {
             reckonRanks();
-            int changes = 0;
+            boolean isLess = false;
             for (int sitter = 0; sitter < size; sitter++) {
                 int prey = preyByRanks(sitter);
                 if (prey == NONE) {
@@ -1130,13 +1127,12 @@ public final class ChairRanks {
                 if (isWatched(prey)) {
                     caught[sitter]++;
                     saw[sitter]--;
-                    changes |= SOMEBODY_CAUGHT;
                 } else if (sawLeg(prey, saw[sitter])) {
-                    changes |= LEGS_LESS;
+                    isLess = true;
                 }
             }
             night++;
-            return changes;
+            return isLess;
         }
 
         private boolean sawLeg(int one, int by) {
@@ -1146,10 +1142,13 @@ public final class ChairRanks {
             return leg[one] < before;
         }
 
-        /** A night that changed nothing leaves all later ones alike, so a plan need not go through them. */
+        /**
+         * For plans alone: behind a night by which no leg is less ranks stay, and with them whom each
+         * would saw, so that no later night takes anything either and need not be gone through.
+         */
         void passNights(int n) {
             for (int k = 0; k < n; k++) {
-                if (passNight() == 0) {
+                if (!passNight()) {
                     return;
                 }
             }
@@ -1181,7 +1180,6 @@ public final class ChairRanks {
         }
 
         void forget() {
-            oldest = 0;
             held = 0;
         }
     }

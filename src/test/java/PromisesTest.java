@@ -115,9 +115,10 @@ public final class PromisesTest {
         due("2: row anew", x.row(1, 1, 3), 3);
         due("2: other lane now", x.set(1, 2, 1000), 1000);
         fill(x, 1, 2, 3, 3, 3);
+        tell(x, "m0,1;p1,0,0;");
+        due("2: 3 is no order", x.sawdust(1, 2), KIND);
         x.row(1, 2, 3);
-        tell(x, THREE);
-        due("2: items are 0 at first, so no order", x.sawdust(1, 0), KIND);
+        due("2: items are 0 at first", x.sawdust(1, 2), 0);
 
         due("3: set", x.set(8, 0, 0), BAD);
         due("3: set", x.set(-1, 0, 0), BAD);
@@ -208,6 +209,7 @@ public final class PromisesTest {
         due("7: all stays", x.count(3), 1);
         due("7: all stays", x.count(6), 4);
         due("7: all stays", x.chair(0, 1), 3);
+        due("7: all stays", x.ahead(0, 1, 1), 0);
         due("7: the tape is empty then", x.count(7), 0);
         due("7: read anew", tell(x, THREE), 3);
         due("7: fault stays", x.fault(), 1);
@@ -617,6 +619,10 @@ public final class PromisesTest {
         // 1 saws 2, 2 saws 3: both fall to 11, and 2 is of lesser number.
         ChairRanks z = told("m0,1;p5,0,0;p9,9,3;p20,9,3;p20,0,0;");
         due("24: 3 is kept above", z.guard(3, 0, 1, 1), 8);
+        // 2 must not be sawn by 1, and 0 must stay the first, so that 2 grudges 1 in the second night.
+        ChairRanks w = told("m0,1;o9,3,3;p10,6,3;p2,6,1;");
+        due("24: two", w.guard(2, 1, 2, 0), 2);
+        due("24: which two", w.guard(2, 1, 2, 1), 5);
     }
 
     private static void bestWatches() {
@@ -738,6 +744,7 @@ public final class PromisesTest {
         x.cushions(2, 2);
         due("29: half is not more", x.coalition(0), 2);
         due("29: which", x.coalition(1), 5);
+        due("29: both", told("m0,1;p7,0,0;p7,0,0;").coalition(1), 3);
         ChairRanks y = told("m0,1;p0,0,0;t0,0,0;");
         due("29: all at 0", y.coalition(0), NONE);
         due("29: all at 0", y.coalition(1), NONE);
@@ -898,10 +905,21 @@ public final class PromisesTest {
         due("36: two nights", x.drawn(2, 1, 1), 12);
         due("36: nothing changes", x.count(4), 17);
         due("36: nothing changes", x.count(3), 0);
+        due("36: many draws", told("m0,1;p0,0,0;").drawn(60, 123456, 1), fives(60, 123456));
         // A chair of 60 is mended to no more than that.
         ChairRanks y = told("m0,9;p55,0,0;");
         due("36: 60 at most", y.drawn(60, 9, 1), 60);
         due("36: seed", y.drawn(60, 999999, 0), 0);
+    }
+
+    private static int fives(int n, long seed) {
+        long x = seed;
+        int many = 0;
+        for (int k = 0; k < n; k++) {
+            x = x * 16807 % 2147483647L;
+            many += x % 5 == 0 ? 1 : 0;
+        }
+        return many;
     }
 
     private static void images() {
@@ -1001,7 +1019,10 @@ public final class PromisesTest {
 
     private static void counts() {
         ChairRanks x = told(THREE);
-        x.row(3, 0, 0);
+        x.row(0, 0, 1);
+        due("43: rows", x.count(0), 1);
+        x.drop(0);
+        x.row(7, 0, 0);
         x.row(5, 1, 2);
         due("43: rows", x.count(0), 2);
         x.row(5, 2, 3);
