@@ -543,6 +543,7 @@ public final class PromisesTest {
         due("20: watched", z.floor(0), NONE);
         due("20: 0 is minister no more at 4", told("m0,1;o9,0,0;p5,3,2;").floor(0), NONE);
         due("20: halves", told("m0,1;o9,0,0;p1,3,3;").floor(0), 9);
+        due("20: not within 60 nights", told("m0,1;p60,1,2;p60,1,2;").floor(0), NONE);
     }
 
     private static void risings() {
@@ -557,6 +558,7 @@ public final class PromisesTest {
         due("21: chair", x.rises(3, 0), BAD);
         due("21: at 60 nights", told("m0,1;p60,0,0;p1,1,2;").rises(1, 0), 60);
         due("21: alike, but of greater number", told("m0,1;p60,0,0;p0,1,2;").rises(1, 0), NONE);
+        due("21: not within 60 nights", told("m0,1;p60,1,2;p60,1,2;p3,0,0;").rises(2, 0), NONE);
     }
 
     private static void calms() {
@@ -779,6 +781,8 @@ public final class PromisesTest {
         due("32: how high", x.enemy(1, 2, 1), 9);
         due("32: n", x.enemy(0, 0, 0), BAD);
         due("32: n", x.enemy(0, 31, 0), BAD);
+        due("32: n", x.enemy(0, 1, 1), 28);
+        due("32: n, till 0 sits below 1", x.enemy(0, 30, 1), 8);
         due("32: what", x.enemy(0, 1, 2), BAD);
         due("32: what", x.enemy(0, 1, -1), BAD);
         due("32: chair", x.enemy(3, 1, 0), BAD);
