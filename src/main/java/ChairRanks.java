@@ -349,25 +349,13 @@ public final class ChairRanks {
     }
 
     public int sawdust(int row, int i) {
-        if (isEmpty()) {
-            return STATE;
-        }
-        if (!isRow(row)) {
-            return BAD;
-        }
-        int finding = findingOfOrder(row, i);
-        return finding != 0 ? found(finding) : nothingFound(leastSawdust());
+        int refused = refusalOfOrder(row, i);
+        return refused != 0 ? refused : nothingFound(leastSawdust());
     }
 
     public int pile(int row, int i) {
-        if (isEmpty()) {
-            return STATE;
-        }
-        if (!isRow(row)) {
-            return BAD;
-        }
-        int finding = findingOfOrder(row, i);
-        return finding != 0 ? found(finding) : nothingFound(fewestCushions());
+        int refused = refusalOfOrder(row, i);
+        return refused != 0 ? refused : nothingFound(fewestCushions());
     }
 
     public int climb(int chair) {
@@ -632,6 +620,18 @@ public final class ChairRanks {
             return FOUND_NULL;
         }
         return rows[row].holds(i, n) ? 0 : FOUND_PLACE;
+    }
+
+    /** The answer that sawdust and pile give, if there is no order to reckon with; else 0. */
+    private int refusalOfOrder(int row, int i) {
+        if (isEmpty()) {
+            return STATE;
+        }
+        if (!isRow(row)) {
+            return BAD;
+        }
+        int finding = findingOfOrder(row, i);
+        return finding != 0 ? found(finding) : 0;
     }
 
     /** Leaves the order in told, if there is one, so that it is looked at but once. */

@@ -42,8 +42,8 @@ final class ForetoldEdges {
 
     private static void ministers(Edges e) {
         e.edge("19", "MINISTER behind n NIGHTS (0 to 60).",
-            "tell m0,1;p60,0,0;p1,1,2; | minister(0) = 0 | minister(59) = 0 | minister(60) = 1 | minister(61) = BAD",
-            "minister(-1) = BAD | minister(MIN) = BAD | minister(MAX) = BAD");
+            "tell m0,1;p60,0,0;p1,1,2; | minister(0) = 0 | minister(59) = 0 | minister(60) = 1 | minister(0) = 0",
+            "minister(59) = 0 | minister(61) = BAD | minister(-1) = BAD | minister(MIN) = BAD | minister(MAX) = BAD");
         e.edge("19", "MINISTER. BAD; STATE: no MINISTRY (ahead of BAD).",
             "minister(0) = STATE | minister(61) = STATE | minister(-1) = STATE | minister(MIN) = STATE");
     }
@@ -67,7 +67,8 @@ final class ForetoldEdges {
             "tell m0,1;p60,0,0;p1,1,2; | rises(1, 0) = 60 | rises(1, 1) = 0 | rises(0, 0) = 0 | rises(1, 5) = 0",
             // 1 saws 2 in the first night, and 0 by 1 in each night from the second on.
             "new | tell m0,1;p59,0,0;p1,1,1;p2,0,0; | rises(1, 0) = 60 | rises(1, 1) = 1",
-            "new | tell m0,1;p60,0,0;p1,1,1;p2,0,0; | rises(1, 0) = NONE | rises(2, 0) = NONE");
+            "new | tell m0,1;p60,0,0;p1,1,1;p2,0,0; | rises(1, 0) = NONE | rises(2, 0) = NONE",
+            "new | tell " + Edges.SIX_STILL + " | rises(0, 4) = NONE | rises(0, 5) = 0 | rises(5, 0) = 0 | rises(4, 0) = NONE");
         e.edge("21", "RANK of a CHAIR is r (0 to 5) or less first",
             // 0 is first for one night alone: behind the first.
             "tell m0,1;p8,9,1;p9,3,2;p9,2,2; | ranked(0) = 1 | rises(0, 0) = 1 | rises(2, 1) = 0 | rises(1, 0) = 0",
@@ -230,6 +231,8 @@ final class ForetoldEdges {
             "tell m0,1;p9,0,0;p9,0,0;p9,0,0;p9,0,0;p9,0,0;p9,0,0; | coalition(0) = 4 | coalition(1) = 15",
             "new | tell m0,1;p5,0,0;p1,0,0;p4,0,0;p4,0,0; | coalition(0) = 2 | coalition(1) = 5",
             "new | tell m0,1;p1,0,0;p5,0,0;p4,0,0;p4,0,0; | coalition(0) = 2 | coalition(1) = 6",
+            // 0, 1 and 2 are more than half, too, and their bits are less: but they are three.
+            "new | tell m0,1;p3,0,0;p3,0,0;p3,0,0;p6,0,0; | coalition(0) = 2 | coalition(1) = 9",
             "new | tell m0,1;t0,0,0;r1,0,0;o0,0,0; | cushions(0, 20) | cushions(2, 20) | coalition(0) = NONE | coalition(1) = NONE",
             "cushions(1, 1) | coalition(0) = 1 | coalition(1) = 2");
         e.edge("29", "COALITIONS: how many (what = 0), which (1); NONE. BAD; STATE: no MINISTRY (ahead of BAD).",

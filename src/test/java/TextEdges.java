@@ -78,7 +78,7 @@ final class TextEdges {
             "count(1) = 1 | count(4) = 7 | chair(1, 0) = BAD | kind(0) = 5 | chair(0, 0) = 7 | chair(0, 5) = 1 | chair(0, 6) = 2",
             "mend(0) = 8 | watch(0, 1) = FULL | ranked(1) = BAD");
         String changed = "tell m2,1;p9,2,3;p9,2,3; | cushions(0, 3) | cushions(1, 4) | watch(0, 1) | watch(1, 1) | nights(2)"
-            + " | count(5) = 4";
+            + " | count(5) = 4 | minister(3) = 1";
         String anew = "tell m2,1;p9,2,3;p9,2,3; = 2";
         e.edge("7", "NIGHT 0", changed, "count(2) = 2", anew, "count(2) = 0");
         e.edge("7", "no CUSHIONS", changed, anew, "chair(0, 1) = 0 | chair(1, 1) = 0 | chair(0, 2) = 9");
@@ -162,16 +162,21 @@ final class TextEdges {
 
     private static void ends(Edges e) {
         String text = "m5,9;p60,9,3;t0,00,0;";
-        StringBuilder script = new StringBuilder();
+        StringBuilder anew = new StringBuilder();
+        StringBuilder behind = new StringBuilder("tell " + text + " = 2");
         for (int many = 0; many <= text.length(); many++) {
             boolean whole = many == 13 || many == text.length();
             if (!whole) {
-                script.append(fault(text.substring(0, many), 1, many)).append('\n');
+                anew.append(fault(text.substring(0, many), 1, many)).append('\n');
+                behind.append(" | tell ").append(text, 0, many).append(" = ").append(-1000100 - many);
             }
         }
-        e.edge("7 8", "the end: how many bytes there are", script.toString(),
+        e.edge("7 8", "the end: how many bytes there are", anew.toString(),
             "new | tell " + text.substring(0, 13) + " = 1 | new | tell " + text + " = 2",
             "new | ministry() = -1000100 | fault() = 1");
+        // What was on the tape before, and would go on just so, is there no more.
+        e.edge("7 8", "The tape, empty then, is read", behind.toString(), "count(1) = 2",
+            "new | tell m00,12;p60,9,3; = -1000104 | tell m0 = -1000102 | tell m0,1 = -1000104 | tell m0,1;p6 = -1000107");
     }
 
     private static void latest(Edges e) {
