@@ -1184,7 +1184,10 @@ public final class ChairRanks {
         }
     }
 
-    /** The bodies of the asks; depth is carried because size and mark ask one another. */
+    /**
+     * The bodies of the asks; depth is carried because size and mark ask one another. Bodies that no
+     * other one lends from stand where they are chosen, so that calls do not go deeper than they may.
+     */
     private static final class Asks {
         private static final int DEEPEST = 8;
 
@@ -1200,11 +1203,13 @@ public final class ChairRanks {
                 case CUSHIONED:
                     return plainSize(of, one, depth);
                 case ROCKER:
-                    return rockerSize(of, one, depth);
+                    begin(12);
+                    return -plainSize(of, one, depth);
                 case OAK:
                     return oakSize(of, one);
                 case THRONE:
-                    return throneSize(of, one);
+                    begin(14);
+                    return 2 * oakSize(of, one);
                 default:
                     return lentSize(of, one);
             }
@@ -1218,9 +1223,11 @@ public final class ChairRanks {
                 case PLAIN:
                     return plainMark(of, one);
                 case ROCKER:
-                    return rockerMark(of, one);
+                    begin(24);
+                    return 2 * plainMark(of, one);
                 case CUSHIONED:
-                    return cushionedMark(of, one);
+                    begin(22);
+                    return plainMark(of, one) - 1000;
                 case OAK:
                 case THRONE:
                     return oakMark(of, one, depth);
@@ -1247,19 +1254,9 @@ public final class ChairRanks {
             return lent + markOf(of, one, depth + 1);
         }
 
-        private int rockerSize(Ministry of, int one, int depth) {
-            begin(12);
-            return -plainSize(of, one, depth);
-        }
-
         private int oakSize(Ministry of, int one) {
             begin(13);
             return lentSize(of, one) - 100;
-        }
-
-        private int throneSize(Ministry of, int one) {
-            begin(14);
-            return 2 * oakSize(of, one);
         }
 
         private int lentMark(int one) {
@@ -1272,20 +1269,10 @@ public final class ChairRanks {
             return lentMark(one) + of.cushions[one];
         }
 
-        private int cushionedMark(Ministry of, int one) {
-            begin(22);
-            return plainMark(of, one) - 1000;
-        }
-
         private int oakMark(Ministry of, int one, int depth) {
             begin(23);
             int lent = lentMark(one);
             return lent - sizeOf(of, one, depth + 1);
-        }
-
-        private int rockerMark(Ministry of, int one) {
-            begin(24);
-            return 2 * plainMark(of, one);
         }
     }
 }

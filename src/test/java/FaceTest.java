@@ -6,13 +6,13 @@ import java.lang.reflect.Modifier;
 import java.nio.charset.StandardCharsets;
 import java.nio.file.Files;
 import java.nio.file.Path;
+import java.util.ArrayList;
 import java.util.Arrays;
+import java.util.List;
 import java.util.Set;
 import java.util.TreeSet;
-import java.util.regex.Matcher;
-import java.util.regex.Pattern;
 
-/** The face is the document's and no more, and the source keeps to what can be seen of LANGUAGE.md. */
+/** The face is the document's and no more, and stands in the source as the document tells it. */
 public final class FaceTest {
     private static final String[] FACE = {
         "row int,int,int", "set int,int,int", "copy int,int,int,int,int", "drop int", "feed int", "ministry ", "fault ",
@@ -23,7 +23,27 @@ public final class FaceTest {
         "guarded int,int,int,int", "doze int,int,int,int,int", "drawn int,int,int", "image int", "restore int",
         "kind int", "as int,int", "ask int,int", "trace int", "count int", "status ",
     };
+    /** Which call is the first behind each of the words that the interface says. */
+    private static final String[] SAID = {
+        "row // ---- rows", "feed // ---- what is told", "nights // ---- what is done", "ahead // ---- foretold",
+        "kind // ---- asked",
+    };
+    private static final List<String> IN_ORDER = inOrder();
     private static int wrong;
+
+    private static List<String> inOrder() {
+        List<String> all = new ArrayList<>();
+        for (String told : FACE) {
+            String name = told.substring(0, told.indexOf(' '));
+            for (String said : SAID) {
+                if (said.startsWith(name + " ")) {
+                    all.add(said.substring(name.length() + 1) + "\n");
+                }
+            }
+            all.add("    public " + (name.equals("doze") ? "long " : "int ") + name + "(");
+        }
+        return all;
+    }
 
     private static void due(boolean so, String what) {
         if (!so) {
@@ -115,19 +135,12 @@ public final class FaceTest {
         for (int k = 0; k < text.length(); k++) {
             due(text.charAt(k) < 128, "the source has plain signs alone, not " + text.charAt(k));
         }
-        String code = text.replaceAll("(?s)/\\*.*?\\*/", " ").replaceAll("//[^\n]*", " ").replaceAll("\"[^\"\n]*\"", "\"\"");
-        for (String word : new String[] {"throw", "throws", "try", "catch", "synchronized", "assert", "package", "double",
-            "float", "native", "volatile", "transient", "System\\.out", "System\\.err", "Random", "Thread", "->", "::"}) {
-            String whole = word.matches("\\w.*") ? "\\b" + word + "\\b" : word;
-            due(!Pattern.compile(whole).matcher(code).find(), "no " + word + " in the source");
-        }
-        Matcher imports = Pattern.compile("import ([^;]*);").matcher(code);
-        while (imports.find()) {
-            due(imports.group(1).equals("java.util.Arrays"), "no import of " + imports.group(1));
-        }
-        Matcher bodies = Pattern.compile("(?m)^( {4}| {8})(?! )[^\\n=;]*\\([^\\n;]*\\) \\{\\n(?s:.*?)^\\1\\}").matcher(code);
-        while (bodies.find()) {
-            due(bodies.group().split("\n").length <= 60, "sixty lines at most: " + bodies.group().split("\n")[0]);
+        // What the interface says ahead of the calls, and the calls in the document's order.
+        int at = 0;
+        for (String told : IN_ORDER) {
+            int found = text.indexOf(told, at);
+            due(found >= 0, told + " stands in its place");
+            at = Math.max(at, found);
         }
     }
 }
